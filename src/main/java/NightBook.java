@@ -18,7 +18,10 @@ public final class NightBook {
     private static final int MOST_MEND_PLAYS = 20000;
     private static final int MOST_LOG = 200;
     private static final int MOST_LAID = 300;
+    private static final int MOST_OF_EACH = 8;
     private static final int ALL_BITS = 255;
+    // A night ends with the first step that is over behind MOST_TICKS, so both have ended long before this tick.
+    private static final int LAST_TICK = MOST_TICKS + 4 * MOST_STEP_TICKS;
 
     private static final int NO_TROUBLE = 0;
     private static final int NONE_SUCH = 1;
@@ -77,18 +80,13 @@ public final class NightBook {
             }
         }
 
-        private static int cellIndex(int book, int k, int what) {
-            boolean inside = book >= 0 && book <= MOST_BOOKS && k >= 0 && k < MOST_STEPS && what >= 0 && what < CELLS;
-            return inside ? (book * MOST_STEPS + k) * CELLS + what : NONE;
-        }
-
         int cell(int book, int k, int what) {
-            int index = cellIndex(book, k, what);
+            int index = (book * MOST_STEPS + k) * CELLS + what;
             return index >= 0 && index < cells.length ? cells[index] : 0;
         }
 
         void setCell(int book, int k, int what, int value) {
-            int index = cellIndex(book, k, what);
+            int index = (book * MOST_STEPS + k) * CELLS + what;
             if (index >= 0 && index < cells.length) {
                 cells[index] = value;
             }
@@ -128,9 +126,13 @@ public final class NightBook {
             return (had >> skill & 1) == 1;
         }
 
-        boolean isDoable(int book, int k) {
+        boolean isDo(int book, int k) {
             int kind = cell(book, k, KIND);
-            return (kind != DO_RIGHT && kind != DO_WRONG) || someoneCan(cell(book, k, FIRST));
+            return kind == DO_RIGHT || kind == DO_WRONG;
+        }
+
+        boolean isDoable(int book, int k) {
+            return !isDo(book, k) || someoneCan(cell(book, k, FIRST));
         }
 
         /** The steps to which a step leads, as bits; a bit behind the last step stands for the book's end. */
@@ -178,6 +180,7 @@ public final class NightBook {
 
         private static final int MOST_LETTERS = 8;
         private static final int MOST_DIGITS = 2;
+        private static final int MOST_NUMBER = 99;
 
         private static final int FORM = 1;
         private static final int BEYOND = 2;
@@ -191,6 +194,7 @@ public final class NightBook {
         private int start = 0;
         private int value = 0;
         private int taken = 0;
+        private int takenAt = 0;
         private int fault = 0;
         private int place = 0;
         private final int[] targets = new int[2 * MOST_STEPS];
@@ -226,44 +230,31 @@ public final class NightBook {
             return c >= '0' && c <= '9';
         }
 
-        private void skipBlanks() {
+        private void advance() {
             while (next < length && isBlank(byteAt(next))) {
                 next++;
             }
-        }
-
-        private void skipLetters() {
+            start = next;
             while (next < length && isLetter(byteAt(next))) {
                 next++;
             }
-        }
-
-        private void skipDigits() {
+            int letters = next - start;
+            if (letters > 0) {
+                token = letters <= MOST_LETTERS ? WORD : NO_TOKEN;
+                return;
+            }
             value = 0;
             while (next < length && isDigit(byteAt(next))) {
                 value = value * 10 + byteAt(next) - '0';
                 next++;
             }
-        }
-
-        private void advance() {
-            skipBlanks();
-            start = next;
-            int c = byteAt(next);
-            if (next >= length) {
-                token = END;
-            } else if (c == ';') {
-                next++;
-                token = SEMICOLON;
-            } else if (isLetter(c)) {
-                skipLetters();
-                token = next - start <= MOST_LETTERS ? WORD : NO_TOKEN;
-            } else if (isDigit(c)) {
-                skipDigits();
-                token = next - start <= MOST_DIGITS ? NUMBER : NO_TOKEN;
-            } else {
-                token = NO_TOKEN;
+            int digits = next - start;
+            if (digits > 0) {
+                token = digits <= MOST_DIGITS ? NUMBER : NO_TOKEN;
+                return;
             }
+            token = next >= length ? END : byteAt(next) == ';' ? SEMICOLON : NO_TOKEN;
+            next++;
         }
 
         private boolean fail(int number) {
@@ -300,29 +291,31 @@ public final class NightBook {
                 return fail(BEYOND);
             }
             taken = value;
+            takenAt = start;
             advance();
             return true;
         }
 
-        /** Takes a step's number; whether there is such a step is known only behind the whole text. */
-        private boolean takeTarget() {
-            int at = start;
-            if (!takeNumber(0, 99)) {
-                return false;
-            }
+        private boolean keep(World world, int k, int what) {
+            world.setCell(world.books, k, what, taken);
+            return true;
+        }
+
+        /** Keeps a step's number; whether there is such a step is known only behind the whole text. */
+        private boolean keepTarget(World world, int k, int what) {
             if (targetCount >= 0 && targetCount < targets.length) {
                 targets[targetCount] = taken;
-                targetPlaces[targetCount] = at;
+                targetPlaces[targetCount] = takenAt;
                 targetCount++;
             }
-            return true;
+            return keep(world, k, what);
         }
 
         private boolean beginsStep() {
             return isWord("do") || isWord("ask") || isWord("wait") || isWord("go") || isWord("calm");
         }
 
-        /** Reads the first bytes of the tape as the book behind the last; false with a fault. */
+        /** Reads the first bytes of the tape as the book behind the last one; false with a fault. */
         boolean readText(World world, int bytes) {
             length = bytes;
             next = 0;
@@ -337,7 +330,7 @@ public final class NightBook {
                 if (k == MOST_STEPS) {
                     return fail(MANY);
                 }
-                if (!readStep(world, world.books, k)) {
+                if (!readStep(world, k)) {
                     return false;
                 }
                 if (token == END) {
@@ -363,64 +356,64 @@ public final class NightBook {
             return true;
         }
 
-        private boolean readStep(World world, int book, int k) {
-            world.setCell(book, k, FIRST, 0);
-            world.setCell(book, k, SECOND, 0);
-            world.setCell(book, k, THIRD, 0);
-            world.setCell(book, k, HARM_FACT, NONE);
+        private boolean readStep(World world, int k) {
+            clearStep(world, k);
             if (isWord("do")) {
-                return readDo(world, book, k);
+                return readDo(world, k);
             }
             if (isWord("ask")) {
-                return readAsk(world, book, k);
+                return readAsk(world, k);
             }
             if (isWord("wait")) {
-                world.setCell(book, k, KIND, WAIT);
+                world.setCell(world.books, k, KIND, WAIT);
                 advance();
-                return takeNumber(1, MOST_STEP_TICKS) && keep(world, book, k, FIRST);
+                return takeNumber(1, MOST_STEP_TICKS) && keep(world, k, FIRST);
             }
             if (isWord("go")) {
-                world.setCell(book, k, KIND, GO);
+                world.setCell(world.books, k, KIND, GO);
                 advance();
-                return takeTarget() && keep(world, book, k, FIRST);
+                return takeNumber(0, MOST_NUMBER) && keepTarget(world, k, FIRST);
             }
-            world.setCell(book, k, KIND, CALM);
+            world.setCell(world.books, k, KIND, CALM);
             return takeWord("calm");
         }
 
-        private boolean keep(World world, int book, int k, int what) {
-            world.setCell(book, k, what, taken);
-            return true;
+        private static void clearStep(World world, int k) {
+            world.setCell(world.books, k, FIRST, 0);
+            world.setCell(world.books, k, SECOND, 0);
+            world.setCell(world.books, k, THIRD, 0);
+            world.setCell(world.books, k, HARM_FACT, NONE);
         }
 
-        private boolean readDo(World world, int book, int k) {
+        private boolean readDo(World world, int k) {
             advance();
             if (!takeNumber(0, MOST_SKILLS - 1)) {
                 return false;
             }
-            keep(world, book, k, FIRST);
-            world.setCell(book, k, KIND, isWord("wrong") ? DO_WRONG : DO_RIGHT);
-            if (!takeWord(isWord("wrong") ? "wrong" : "right") || !takeNumber(0, world.facts - 1)) {
+            keep(world, k, FIRST);
+            boolean wrong = isWord("wrong");
+            world.setCell(world.books, k, KIND, wrong ? DO_WRONG : DO_RIGHT);
+            if (!takeWord(wrong ? "wrong" : "right") || !takeNumber(0, world.facts - 1)) {
                 return false;
             }
-            keep(world, book, k, SECOND);
+            keep(world, k, SECOND);
             if (!takeWord("takes") || !takeNumber(1, MOST_STEP_TICKS)) {
                 return false;
             }
-            keep(world, book, k, THIRD);
+            keep(world, k, THIRD);
             if (!isWord("if")) {
                 return true;
             }
             advance();
-            return takeNumber(0, world.facts - 1) && keep(world, book, k, HARM_FACT) && takeWord("harm");
+            return takeNumber(0, world.facts - 1) && keep(world, k, HARM_FACT) && takeWord("harm");
         }
 
-        private boolean readAsk(World world, int book, int k) {
-            world.setCell(book, k, KIND, ASK);
+        private boolean readAsk(World world, int k) {
+            world.setCell(world.books, k, KIND, ASK);
             advance();
-            return takeNumber(0, world.signs - 1) && keep(world, book, k, FIRST)
-                && takeWord("then") && takeTarget() && keep(world, book, k, SECOND)
-                && takeWord("else") && takeTarget() && keep(world, book, k, THIRD);
+            return takeNumber(0, world.signs - 1) && keep(world, k, FIRST)
+                && takeWord("then") && takeNumber(0, MOST_NUMBER) && keepTarget(world, k, SECOND)
+                && takeWord("else") && takeNumber(0, MOST_NUMBER) && keepTarget(world, k, THIRD);
         }
     }
 
@@ -438,8 +431,8 @@ public final class NightBook {
         /** The free one of the least number with a skill; NOBODY if none could ever, ALL_BUSY if none can now. */
         int pick(World world, int skill, int away, int tick) {
             int found = NOBODY;
-            for (int p = 0; p < world.people && p < freeFrom.length; p++) {
-                if ((world.skillsOf(p) >> skill & 1) == 1 && (away >> p & 1) == 0) {
+            for (int p = 0; p < world.people && p < freeFrom.length && p < world.skills.length; p++) {
+                if ((world.skills[p] >> skill & 1) == 1 && (away >> p & 1) == 0) {
                     if (freeFrom[p] <= tick) {
                         return p;
                     }
@@ -462,7 +455,6 @@ public final class NightBook {
         private static final int WAITING = 1;
         private static final int DOING = 2;
 
-        private static final int FOREVER = 1000000;
         private static final int WORDS_A_STEP = 4;
         // A step is come to at most once with each state of the facts, and once more for a round.
         private static final int MOST_MOVES = MOST_STEPS * 256 + 2;
@@ -498,14 +490,7 @@ public final class NightBook {
             end = NONE;
         }
 
-        /** A play alone, to its end. */
-        int playOut(World world, Hands hands) {
-            hands.rest();
-            goOn(world, hands, FOREVER);
-            return end;
-        }
-
-        /** Goes on until it ends or is in the midst of a step, or waits, beyond a tick. */
+        /** Goes on until it ends, or is in the midst of a step or waits beyond a tick. */
         void goOn(World world, Hands hands, int tick) {
             for (int i = 0; i <= MOST_MOVES && end == NONE && clock <= tick; i++) {
                 if (phase == DOING) {
@@ -514,8 +499,10 @@ public final class NightBook {
                 if (phase == COMING && end == NONE) {
                     come(world);
                 }
-                if (end == NONE) {
-                    begin(world, hands);
+                if (end == NONE && world.isDo(book, at)) {
+                    beginDo(world, hands);
+                } else if (end == NONE) {
+                    beginOther(world);
                 }
             }
         }
@@ -525,7 +512,7 @@ public final class NightBook {
                 end = OVER;
                 return;
             }
-            if (comings < path.length) {
+            if (comings >= 0 && comings < path.length) {
                 path[comings] = at;
             }
             comings++;
@@ -540,27 +527,26 @@ public final class NightBook {
             seen[index] |= bit;
         }
 
-        private void begin(World world, Hands hands) {
+        private void beginOther(World world) {
             int kind = world.cell(book, at, KIND);
-            if (kind == DO_RIGHT || kind == DO_WRONG) {
-                beginDo(world, hands);
-            } else if (kind == CALM) {
+            if (kind == CALM) {
                 end = (wrong & world.goal) == 0 ? IN_CALM : EARLY;
-            } else {
-                clock += kind == ASK ? 1 : kind == WAIT ? world.cell(book, at, FIRST) : 0;
-                phase = DOING;
+                return;
             }
+            clock += kind == ASK ? 1 : kind == WAIT ? world.cell(book, at, FIRST) : 0;
+            phase = DOING;
         }
 
         private void beginDo(World world, Hands hands) {
             int person = hands.pick(world, world.cell(book, at, FIRST), away, clock);
+            int harmFact = world.cell(book, at, HARM_FACT);
             if (person == Hands.NOBODY) {
                 end = STUCK;
             } else if (person == Hands.ALL_BUSY) {
                 waited++;
                 clock++;
                 phase = WAITING;
-            } else if (doesHarm(world.cell(book, at, HARM_FACT))) {
+            } else if (harmFact != NONE && (wrong >> harmFact & 1) == 0) {
                 end = HARM;
             } else {
                 clock += world.cell(book, at, THIRD);
@@ -569,40 +555,27 @@ public final class NightBook {
             }
         }
 
-        private boolean doesHarm(int fact) {
-            return fact != NONE && (wrong >> fact & 1) == 0;
-        }
-
+        /** The step's last tick is over: the facts change, and it is known where it leads. */
         private void finish(World world) {
-            int next = nextStep(world);
+            int kind = world.cell(book, at, KIND);
+            int first = world.cell(book, at, FIRST);
+            int next = at + 1;
+            if (kind == GO) {
+                next = first;
+            } else if (kind == ASK) {
+                boolean tellsWrong = ((wrong >> world.factOf(first) ^ lies >> first) & 1) == 1;
+                next = world.cell(book, at, tellsWrong ? SECOND : THIRD);
+            } else if (kind == DO_RIGHT) {
+                wrong &= ~(1 << world.cell(book, at, SECOND));
+            } else if (kind == DO_WRONG) {
+                wrong |= 1 << world.cell(book, at, SECOND);
+            }
             phase = COMING;
             if (clock > MOST_TICKS) {
                 end = LONG;
             } else {
                 at = next;
             }
-        }
-
-        /** Does what the step at hand does as its last tick is over, and tells the step behind it. */
-        private int nextStep(World world) {
-            int kind = world.cell(book, at, KIND);
-            if (kind == GO) {
-                return world.cell(book, at, FIRST);
-            }
-            if (kind == ASK) {
-                return world.cell(book, at, tellsWrong(world, world.cell(book, at, FIRST)) ? SECOND : THIRD);
-            }
-            int bit = 1 << world.cell(book, at, SECOND);
-            if (kind == DO_RIGHT) {
-                wrong &= ~bit;
-            } else if (kind == DO_WRONG) {
-                wrong |= bit;
-            }
-            return at + 1;
-        }
-
-        private boolean tellsWrong(World world, int sign) {
-            return ((wrong >> world.factOf(sign) ^ lies >> sign) & 1) == 1;
         }
 
         int pathAt(int i) {
@@ -743,100 +716,32 @@ public final class NightBook {
         }
     }
 
-    /** Tries the mends of the book of the latest all(), one at a time, and takes each back. */
-    private static final class Mender {
+    /** How many mends cured, and the first of them. */
+    private static final class Cures {
         private static final int FIRST_TARGET = 0;
         private static final int SECOND_TARGET = 1;
         private static final int GO_TARGET = 2;
         private static final int LEARNT = 3;
 
-        private int cures = 0;
+        private int count = 0;
         private int kind = NONE;
         private int which = NONE;
         private int change = NONE;
 
-        static int countMends(World world, int book) {
-            int size = world.sizeOf(book);
-            int targets = 0;
-            for (int k = 0; k < size; k++) {
-                int stepKind = world.cell(book, k, KIND);
-                targets += stepKind == ASK ? 2 : stepKind == GO ? 1 : 0;
-            }
-            int mends = targets * (size - 1);
-            for (int p = 0; p < world.people; p++) {
-                mends += MOST_SKILLS - Integer.bitCount(world.skillsOf(p));
-            }
-            return mends;
-        }
-
         void forget() {
-            cures = 0;
+            count = 0;
             kind = NONE;
             which = NONE;
             change = NONE;
         }
 
-        void tryAll(World world, Tally tally, Walk walk, Hands hands) {
-            forget();
-            for (int k = 0; k < world.sizeOf(tally.book); k++) {
-                int stepKind = world.cell(tally.book, k, KIND);
-                if (stepKind == ASK) {
-                    tryTargets(world, tally, walk, hands, FIRST_TARGET, k);
-                    tryTargets(world, tally, walk, hands, SECOND_TARGET, k);
-                } else if (stepKind == GO) {
-                    tryTargets(world, tally, walk, hands, GO_TARGET, k);
-                }
-            }
-            for (int p = 0; p < world.people; p++) {
-                trySkills(world, tally, walk, hands, p);
-            }
-        }
-
-        private void tryTargets(World world, Tally tally, Walk walk, Hands hands, int mendKind, int k) {
-            int what = mendKind == FIRST_TARGET ? SECOND : mendKind == SECOND_TARGET ? THIRD : FIRST;
-            int old = world.cell(tally.book, k, what);
-            for (int target = 0; target < world.sizeOf(tally.book); target++) {
-                if (target != old) {
-                    world.setCell(tally.book, k, what, target);
-                    if (allCalm(world, tally, walk, hands)) {
-                        keep(mendKind, k, target);
-                    }
-                }
-            }
-            world.setCell(tally.book, k, what, old);
-        }
-
-        private void trySkills(World world, Tally tally, Walk walk, Hands hands, int person) {
-            int old = world.skillsOf(person);
-            for (int skill = 0; skill < MOST_SKILLS; skill++) {
-                if ((old >> skill & 1) == 0) {
-                    world.setSkills(person, old | 1 << skill);
-                    if (allCalm(world, tally, walk, hands)) {
-                        keep(LEARNT, person, skill);
-                    }
-                }
-            }
-            world.setSkills(person, old);
-        }
-
-        private static boolean allCalm(World world, Tally tally, Walk walk, Hands hands) {
-            for (int i = 0; i < tally.plays; i++) {
-                int row = tally.rowAt(i);
-                walk.start(world, tally.book, row & 255, row >> 8 & 255, row >> 16 & 255);
-                if (walk.playOut(world, hands) != IN_CALM) {
-                    return false;
-                }
-            }
-            return true;
-        }
-
-        private void keep(int mendKind, int number, int changed) {
-            if (cures == 0) {
+        void add(int mendKind, int stepOrPerson, int targetOrSkill) {
+            if (count == 0) {
                 kind = mendKind;
-                which = number;
-                change = changed;
+                which = stepOrPerson;
+                change = targetOrSkill;
             }
-            cures++;
+            count++;
         }
 
         int about(int what) {
@@ -887,9 +792,6 @@ public final class NightBook {
         }
     }
 
-    // Each night ends at the first step that is over beyond MOST_TICKS: two steps behind it both have.
-    private static final int LAST_TICK = MOST_TICKS + 4 * MOST_STEP_TICKS;
-
     private final World world;
     private final Reader reader;
     private final Hands hands;
@@ -899,7 +801,7 @@ public final class NightBook {
     private final Walk secondNight;
     private final Choices choices;
     private final Tally tally;
-    private final Mender mender;
+    private final Cures cures;
     private final Diary diary;
     private final int[] differRows;
     private int trouble;
@@ -914,7 +816,7 @@ public final class NightBook {
         secondNight = new Walk(false);
         choices = new Choices();
         tally = new Tally();
-        mender = new Mender();
+        cures = new Cures();
         diary = new Diary();
         differRows = new int[MOST_PLAYS];
         trouble = NO_TROUBLE;
@@ -1034,7 +936,9 @@ public final class NightBook {
             return refuse(BAD_NUMBER);
         }
         shown.start(world, book, wrong, lies, away);
-        return accept(shown.playOut(world, hands));
+        hands.rest();
+        shown.goOn(world, hands, LAST_TICK);
+        return accept(shown.end);
     }
 
     private boolean nothingPlayed() {
@@ -1054,12 +958,16 @@ public final class NightBook {
     }
 
     private static boolean areMosts(int wrongMost, int liesMost, int awayMost) {
-        return wrongMost >= 0 && wrongMost <= 8 && liesMost >= 0 && liesMost <= 8 && awayMost >= 0 && awayMost <= 8;
+        return wrongMost >= 0 && wrongMost <= MOST_OF_EACH
+            && liesMost >= 0 && liesMost <= MOST_OF_EACH
+            && awayMost >= 0 && awayMost <= MOST_OF_EACH;
     }
 
     private int tryRow(int book, int row) {
         tried.start(world, book, row & 255, row >> 8 & 255, row >> 16 & 255);
-        return tried.playOut(world, hands);
+        hands.rest();
+        tried.goOn(world, hands, LAST_TICK);
+        return tried.end;
     }
 
     public int all(int book, int facts, int wrongMost, int liesMost, int awayMost) {
@@ -1101,23 +1009,80 @@ public final class NightBook {
         return (world.reached(book) >> k & 1) + (world.isDoable(book, k) ? 2 : 0);
     }
 
+    private int countMends(int book) {
+        int size = world.sizeOf(book);
+        int targets = 0;
+        for (int k = 0; k < size; k++) {
+            int kind = world.cell(book, k, KIND);
+            targets += kind == ASK ? 2 : kind == GO ? 1 : 0;
+        }
+        int mends = targets * (size - 1);
+        for (int p = 0; p < world.people; p++) {
+            mends += MOST_SKILLS - Integer.bitCount(world.skillsOf(p));
+        }
+        return mends;
+    }
+
+    private boolean allCalm() {
+        for (int i = 0; i < tally.plays; i++) {
+            if (tryRow(tally.book, tally.rowAt(i)) != IN_CALM) {
+                return false;
+            }
+        }
+        return true;
+    }
+
+    private void tryTargets(int mendKind, int k, int what) {
+        int old = world.cell(tally.book, k, what);
+        for (int target = 0; target < world.sizeOf(tally.book); target++) {
+            world.setCell(tally.book, k, what, target);
+            if (target != old && allCalm()) {
+                cures.add(mendKind, k, target);
+            }
+        }
+        world.setCell(tally.book, k, what, old);
+    }
+
+    private void trySkills(int person) {
+        int old = world.skillsOf(person);
+        for (int skill = 0; skill < MOST_SKILLS; skill++) {
+            int learnt = old | 1 << skill;
+            world.setSkills(person, learnt);
+            if (learnt != old && allCalm()) {
+                cures.add(Cures.LEARNT, person, skill);
+            }
+        }
+        world.setSkills(person, old);
+    }
+
     public int mends() {
         if (!tally.told) {
             return refuse(NOT_PLAYED);
         }
-        if (tally.bad == 0) {
-            mender.forget();
-            return accept(0);
-        }
-        if (Mender.countMends(world, tally.book) * tally.plays > MOST_MEND_PLAYS) {
+        if (tally.bad > 0 && countMends(tally.book) * tally.plays > MOST_MEND_PLAYS) {
             return refuse(NO_ROOM);
         }
-        mender.tryAll(world, tally, tried, hands);
-        return accept(mender.cures);
+        cures.forget();
+        if (tally.bad == 0) {
+            return accept(0);
+        }
+        for (int k = 0; k < world.sizeOf(tally.book); k++) {
+            int kind = world.cell(tally.book, k, KIND);
+            if (kind == ASK) {
+                tryTargets(Cures.FIRST_TARGET, k, SECOND);
+                tryTargets(Cures.SECOND_TARGET, k, THIRD);
+            } else if (kind == GO) {
+                tryTargets(Cures.GO_TARGET, k, FIRST);
+            }
+        }
+        for (int p = 0; p < world.people; p++) {
+            trySkills(p);
+        }
+        return accept(cures.count);
     }
 
     public int mend(int what) {
-        return mender.about(what);
+        return cures.about(what);
     }
 
     public int nights(int first, int wrong, int lies, int second, int otherWrong, int otherLies, int away) {
