@@ -489,7 +489,9 @@ public final class NightBookAgainstModel {
     final Model m = new Model();
     final StringBuilder told = new StringBuilder();
 
-    Run(int seed) { this.seed = seed; r = new Random(seed); }
+    final boolean counts;
+
+    Run(int seed) { this.seed = seed; r = new Random(seed); counts = seed % 10 == 0; }
 
     void same(String call, int got, int want) {
       told.append(call).append(" = ").append(want).append('\n');
@@ -520,7 +522,22 @@ public final class NightBookAgainstModel {
       return "calm";
     }
 
+    /** A binary counter over the first facts, so that plays become LONG, or nearly. */
+    String counter() {
+      int bits = 4 + r.nextInt(2);
+      StringBuilder b = new StringBuilder();
+      for (int i = 0; i < bits; i++) {
+        String does = "do " + (r.nextInt(12) == 0 ? 1 : 0), takes = i + " takes " + (r.nextInt(4) == 0 ? 1 + r.nextInt(60) : 58 + r.nextInt(3));
+        b.append("ask ").append(i).append(" then ").append(4 * i + 3).append(" else ").append(4 * i + 1);
+        b.append(";").append(does).append(" wrong ").append(takes).append(r.nextInt(9) == 0 ? " if 7 harm" : "").append(";go ").append(4 * bits);
+        b.append(";").append(does).append(" right ").append(takes).append(";");
+      }
+      for (int i = r.nextInt(3); i > 0; i--) b.append("wait ").append(1 + r.nextInt(60)).append(";");
+      return b.append(r.nextInt(4) == 0 ? "calm" : "go 0").toString();
+    }
+
     String text() {
+      if (counts && r.nextInt(4) > 0) return counter();
       int size = r.nextInt(6) == 0 ? 22 + r.nextInt(4) : 1 + r.nextInt(8);
       StringBuilder b = new StringBuilder();
       for (int i = 0; i < size; i++) b.append(i > 0 ? (r.nextBoolean() ? ";" : " ;\n") : "").append(i == size - 1 && r.nextInt(3) > 0 ? "calm" : stepText(size));
@@ -623,6 +640,11 @@ public final class NightBookAgainstModel {
     }
 
     void go() {
+      for (int i = 0; i < 8 && counts; i++) {
+        same("fact()", x.fact(), m.fact());
+        same("sign(" + i + ")", x.sign(i), m.sign(i));
+      }
+      if (counts) same("person(3)", x.person(3), m.person(3));
       for (int i = r.nextInt(14); i > 0; i--) tellHouse();
       for (int i = 0; i < 40; i++) {
         switch (r.nextInt(12)) {
