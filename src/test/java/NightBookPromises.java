@@ -210,6 +210,11 @@ public final class NightBookPromises {
     fault(x, "calmness", 1, 0);
     fault(x, "calmnesss", 1, 0);
     fault(x, "cal m", 1, 0);
+    fault(x, "calmz", 1, 0);
+    fault(x, "calm`", 1, 4);
+    fault(x, "calm{", 1, 4);
+    fault(x, "wait 5/", 1, 6);
+    fault(x, "wait 5:", 1, 6);
     fault(x, "7", 1, 0);
     fault(x, "go", 1, 2);
     fault(x, "go ;calm", 1, 3);
@@ -280,11 +285,14 @@ public final class NightBookPromises {
     due("10 steps(1)", x.steps(1), -1);
     due("10 steps(-1)", x.steps(-1), -1);
     with(x, "do 0 right 0 takes 5 if 0 harm;wait 2");
-    book(x, "calm;go 7");
+    book(x, "do 1 right 2 takes 5 if 0 harm;do 1 right 2 takes 5 if 0 harm;go 0;go 9");
     due("11 a refused text leaves no book", x.steps(2), -1);
     with(x, "wait 3;calm");
-    due("11 nothing stays of it", x.step(2, 1, 1), 0);
+    int[] behind = {5, 0, 0, 0, -1};
+    for (int what = 0; what < 5; what++) due("11 nothing stays of it", x.step(2, 1, what), behind[what]);
+    due("11 nothing stays of it", x.step(2, 0, 2), 0);
     due("11 nothing stays of it", x.step(2, 0, 4), -1);
+    due("18 nothing stays of it", x.idle(2), 0);
   }
 
   private static void plays() {
@@ -368,6 +376,11 @@ public final class NightBookPromises {
     int both = x.laid();
     due("26 the first 300 STEPS", x.apart(false), 300 - both);
     due("27 added", x.apart(true), 200 - both);
+    x.clear();
+    for (int i = 0; i < 200; i++) x.log(x.path(i));
+    done(x, "26 the whole log", x.laid(), 200);
+    due("27 left", x.apart(false), 100);
+    due("27 added", x.apart(true), 0);
     done(x, "12 calm", x.play(2, 0, 0, 0), CALM);
     due("13 ticks", x.played(0), 62 * 61 + 60);
     done(x, "12 over", x.play(3, 0, 0, 0), OVER);
@@ -388,8 +401,11 @@ public final class NightBookPromises {
     due("13 at the step behind which it was asked", x.played(3), 23);
     done(x, "12 calm", x.play(2, 0, 0, 0), CALM);
     due("13 ticks", x.played(0), 4991);
-    done(x, "22 nights", x.nights(0, 0, 0, 1, 0, 0, 0) > 5000 ? 1 : 0, 1);
-    done(x, "22 alone as a PLAY", x.nights(0, 0, 0, 2, 1, 1, 1) > 0 ? 1 : 0, 1);
+    x.person(1);
+    done(x, "22 nights with hands for both", x.nights(0, 0, 0, 1, 0, 0, 0), 5001);
+    due("23 5,000", x.night(false, 1), 5000);
+    due("23 over", x.night(false, 0), OVER);
+    due("23 long", x.night(true, 0), LONG);
     NightBook z = house(1, 0, 1);
     with(z, times(24, "wait 60", ";"));
     done(z, "12 over", z.play(0, 0, 0, 0), OVER);
@@ -584,6 +600,12 @@ public final class NightBookPromises {
     refused(y, "20 78 * 384", y.mends(), ROOM);
     done(y, "15 none is bad", y.all(1, 127, 7, 1, 0), 0);
     done(y, "20 none was bad", y.mends(), 0);
+    NightBook v = house(4, 4, 0, 0, 0, 0);
+    with(v, times(8, "go 0", ";") + ";" + times(9, "calm", ";"), times(7, "go 0", ";") + ";" + times(17, "calm", ";"));
+    done(v, "15 5 * 5 * 5 plays", v.all(0, 15, 1, 1, 1), 125);
+    done(v, "20 160 * 125 are 20,000", v.mends(), 0);
+    v.all(1, 15, 1, 1, 1);
+    refused(v, "20 193 * 125", v.mends(), ROOM);
     NightBook z = house(8, 0, 0, 0, 0, 0);
     with(z, "go 0;go 0;" + times(22, "calm", ";"));
     z.goal(0);
@@ -663,7 +685,7 @@ public final class NightBookPromises {
     NightBook y = house(8, 8, 1);
     with(y, counter(6, 60), "do 0 right 0 takes 9;calm", counter(6, 60).replace("do 0 ", "do 1 "));
     int ticks = y.play(0, 0, 0, 0) == LONG ? y.played(0) : -1;
-    due("22 long", y.nights(0, 0, 0, 0, 0, 0, 1), 0 + 1);
+    due("22 both ask, then find nobody", y.nights(0, 0, 0, 0, 0, 0, 1), 1);
     due("22 a long night and one that waits for its asks' ticks", y.nights(0, 0, 0, 1, 1, 0, 0) >= ticks, true);
     due("23 long", y.night(false, 0), LONG);
     due("23 long", y.night(false, 1) > 5000, true);
