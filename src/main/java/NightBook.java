@@ -578,6 +578,16 @@ public final class NightBook {
             }
         }
 
+        int about(int what) {
+            switch (what) {
+                case 0: return clock;
+                case 1: return comings;
+                case 2: return wrong;
+                case 3: return at;
+                default: return NONE;
+            }
+        }
+
         int pathAt(int i) {
             return i >= 0 && i < comings && i < path.length ? path[i] : NONE;
         }
@@ -946,11 +956,11 @@ public final class NightBook {
     }
 
     public int played(int what) {
-        // The document tells one number for every NONE of this call.
-        if (nothingPlayed() || what < 0 || what > 3) {
+        if (nothingPlayed()) {
             return refuse(NOT_PLAYED);
         }
-        return accept(what == 0 ? shown.clock : what == 1 ? shown.comings : what == 2 ? shown.wrong : shown.at);
+        // Behind a play a what that there isn't is no refusal: the document names no number for it.
+        return accept(shown.about(what));
     }
 
     public int path(int i) {

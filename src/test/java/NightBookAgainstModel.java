@@ -220,7 +220,8 @@ public final class NightBookAgainstModel {
     }
 
     int played(int what) {
-      if (play == null || what < 0 || what > 3) return no(5);
+      if (play == null) return no(5);
+      if (what < 0 || what > 3) return yes(-1);
       return yes(what == 0 ? play.ticks : what == 1 ? play.path.size() : what == 2 ? play.facts : play.at);
     }
 

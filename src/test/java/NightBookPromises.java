@@ -299,6 +299,10 @@ public final class NightBookPromises {
     NightBook x = house(2, 2, 1, 3);
     with(x, "ask 0 then 1 else 2;do 0 right 0 takes 5;ask 1 then 3 else 4;do 1 right 1 takes 7;calm");
     refused(x, "13 played(0) ahead of any", x.played(0), NOT_PLAYED);
+    x.goal(255);
+    refused(x, "13 played(4) ahead of any", x.played(4), NOT_PLAYED);
+    x.goal(255);
+    refused(x, "13 played(-1) ahead of any", x.played(-1), NOT_PLAYED);
     refused(x, "12 no book", x.play(1, 0, 0, 0), NONE_SUCH);
     refused(x, "12 no book, bad bits", x.play(-1, 256, 0, 0), NONE_SUCH);
     refused(x, "12 wrong", x.play(0, 256, 0, 0), NUMBER);
@@ -311,9 +315,18 @@ public final class NightBookPromises {
     done(x, "13 comings", x.played(1), 5);
     done(x, "13 wrong", x.played(2), 0);
     done(x, "13 at", x.played(3), 4);
-    due("13 what 4", x.played(4), -1);
-    due("13 what -1", x.played(-1), -1);
+    int[] noSuch = {4, -1, 5, 99, Integer.MIN_VALUE, Integer.MAX_VALUE};
+    for (int what : noSuch) {
+      x.goal(256);
+      done(x, "13 there is no what " + what + ", and that is no refusal", x.played(what), -1);
+    }
+    book(x, "go");
+    due("9 place of a fault", x.where(), 2);
+    done(x, "13 behind a fault", x.played(4), -1);
+    due("9 the latest that may be refused was by none", x.where(), -1);
+    due("8 the fault stays", x.fault(), 1);
     x.play(0, 256, 0, 0);
+    done(x, "13 behind a refused play()", x.played(4), -1);
     due("13 of the latest that told an END", x.played(0), 14);
     for (int i = 0; i < 5; i++) due("14 path", x.path(i), i);
     due("14 path(5)", x.path(5), -1);
