@@ -418,7 +418,8 @@ public final class NightBookEdges {
       }
       boolean number = Character.isDigit(tokens[i].charAt(0));
       fault(1, 1, ahead + (number ? "calm" : "0"), 1, at);
-      fault(1, 1, ahead + (number ? "000" : "x"), 1, at);
+      fault(1, 1, ahead + "x", 1, at);
+      fault(1, 1, ahead + (number ? "000" : "00"), 1, at);
       fault(1, 1, ahead + "~", 1, at);
       at += tokens[i].length() + 1;
     }
@@ -427,6 +428,8 @@ public final class NightBookEdges {
     taken(1, 1, text + ";calm");
     fault(1, 1, text + " calm", 1, text.length() + 1);
     fault(1, 1, text + " 0", 1, text.length() + 1);
+    fault(1, 1, text + " x", 1, text.length() + 1);
+    fault(1, 1, text + " x;calm", 1, text.length() + 1);
     fault(1, 1, text + " ;", 1, text.length() + 2);
   }
 
@@ -675,6 +678,13 @@ public final class NightBookEdges {
     }
     int[] wait = {3, 60, 0, 0, -1};
     for (int k = 0; k < 24; k++) for (int what = 0; what < 5; what++) due("step(3, " + k + ", " + what + ")", x.step(3, k, what), wait[what]);
+    sentence("11: 0 where there is nothing else (nor of a text that was refused)");
+    NightBook y = house(2, 2);
+    book(y, "do 7 right 1 takes 60 if 1 harm;ask 1 then 1 else 1;do 7 right 1 takes 60 if 1 harm;do 7 right 1 takes 60 if 1 harm;go 9");
+    with(y, "wait 5;calm;go 1;ask 0 then 0 else 0");
+    int[][] rest = {{3, 5, 0, 0, -1}, {5, 0, 0, 0, -1}, {4, 1, 0, 0, -1}, {2, 0, 0, 0, -1}};
+    for (int k = 0; k < 4; k++) for (int what = 0; what < 5; what++) due("step(0, " + k + ", " + what + ")", y.step(0, k, what), rest[k][what]);
+    due("steps(0)", y.steps(0), 4);
     sentence("11: NONE");
     for (int what : new int[] {-1, 5, LEAST, MOST}) due("step(0, 0, " + what + ")", x.step(0, 0, what), NONE);
     for (int k : new int[] {-1, 7, 24, LEAST, MOST}) due("step(0, " + k + ", 0)", x.step(0, k, 0), NONE);
@@ -856,6 +866,21 @@ public final class NightBookEdges {
     due("OVER is no STEP", x.path(24), NONE);
     x.play(0, 0, 0, 0);
     path(x, 0);
+    sentence("14: (up to the 2,000th)");
+    // A register that shifts its bits: the longest play that was found, 1,794 STEPS of the 2,000.
+    NightBook y = with(house(8, 8, 1), "do 0 right 3 takes 1;do 0 wrong 0 takes 1;ask 3 then 0 else 19;do 0 wrong 2 takes 1;"
+        + "do 0 wrong 5 takes 1;ask 6 then 16 else 10;ask 5 then 3 else 4;do 0 wrong 7 takes 1;do 0 right 2 takes 1;ask 2 then 7 else 6;"
+        + "do 0 wrong 6 takes 1;do 0 right 5 takes 1;ask 0 then 15 else 20;do 0 wrong 4 takes 1;do 0 right 6 takes 1;do 0 right 0 takes 1;"
+        + "ask 0 then 14 else 2;do 0 right 1 takes 1;do 0 wrong 3 takes 1;ask 1 then 17 else 23;ask 2 then 14 else 13;do 0 wrong 1 takes 1;"
+        + "do 0 right 7 takes 1;ask 7 then 21 else 9");
+    went(y, "play", y.play(0, 0, 0, 0), ROUND, 1793, 1794, 218, 14);
+    long sum = 0;
+    for (int i = 1394; i < 1794; i++) sum += (long) i * y.path(i);
+    due("the last 400 of them, each times its place", sum, 7336016);
+    due("path(1793)", y.path(1793), 14);
+    due("path(1794)", y.path(1794), NONE);
+    due("path(1999)", y.path(1999), NONE);
+    due("path(2000)", y.path(2000), NONE);
   }
 
   private static int some(int of, int most) {
@@ -1181,6 +1206,10 @@ public final class NightBookEdges {
     y.all(3, 0, 0, 0, 0);
     firstMend(y, "the last of 24", y.mends(), 1, 2, 1, 23);
     due("none is bad", y.all(2, 0, 0, 0, 0), 0);
+    sentence("IV: another STEP (0, 1 ..), STEP 0 too");
+    NightBook v = with(house(1, 1, 1), "ask 0 then 1 else 3;do 0 right 0 takes 1;go 2;calm");
+    v.all(0, 1, 1, 0, 0);
+    firstMend(v, "back to STEP 0, or on to the last", v.mends(), 2, 2, 2, 0);
     sentence("IV: A MEND CURES if ALL PLAYS are CALM by it");
     NightBook z = with(house(1, 1, 1), "ask 0 then 0 else 1;calm;do 0 right 0 takes 1;calm", "ask 0 then 0 else 1;calm");
     z.all(0, 1, 1, 0, 0);
@@ -1254,6 +1283,13 @@ public final class NightBookEdges {
     done(w, "none was bad, though now they would be", w.mends(), 0);
     due("255 are bad", w.all(0, 255, 8, 0, 0), 255);
     refused(w, "(44 * 23 + 32) * 256", w.mends(), ROOM);
+    sentence("20: 3 (some were BAD: one is enough)");
+    StringBuilder b = new StringBuilder();
+    for (int i = 0; i < 5; i++) b.append("ask ").append(i).append(" then ").append(i + 1).append(" else 22;");
+    NightBook v = with(house(5, 5, 0, 0, 0, 0), b + "go 5;" + times(16, "ask 0 then 0 else 0", ";") + ";calm");
+    v.goal(0);
+    due("one of 32 is bad", v.all(0, 31, 5, 0, 0), 1);
+    refused(v, "(43 * 22 + 32) * 32", v.mends(), ROOM);
   }
 
   // ---- nights and logs
@@ -1388,6 +1424,11 @@ public final class NightBookEdges {
     sentence("IV: (HARM is asked then)");
     done(x, "it waits, then does harm", x.nights(0, 1, 0, 2, 1, 0, 0), 60);
     night(x, true, HARM, 60, 60);
+    NightBook again = with(house(2, 1, 1), "do 0 right 0 takes 60;calm", "do 0 wrong 0 takes 3 if 1 harm;calm", "wait 3;go 0");
+    again.nights(0, 1, 0, 1, 1, 0, 0);
+    night(again, true, HARM, 60, 60);
+    done(again, "the next nights begin anew", again.nights(0, 1, 0, 2, 0, 0, 0), 60);
+    night(again, true, ROUND, 3, 0);
     done(x, "harm at once", x.nights(2, 1, 0, 0, 1, 0, 0), 60);
     night(x, false, HARM, 0, 0);
     night(x, true, CALM, 60, 0);
@@ -1410,6 +1451,11 @@ public final class NightBookEdges {
     night(z, true, LONG, 5001, 1);
     done(z, "it waits a TICK of 5,000", z.nights(2, 0, 0, 3, 0, 0, 0), 5000);
     night(z, true, OVER, 5000, 1);
+    String last = upToTheEnd("do 2 right 7 takes 60");
+    NightBook w = with(house(8, 8, 1, 2, 4), last, last.replace("do 0 ", "do 1 "));
+    done(w, "it waits beyond 5,000 TICKS", w.nights(0, 0, 0, 1, 0, 0, 0), 5111);
+    night(w, false, LONG, 5051, 0);
+    night(w, true, LONG, 5111, 60);
   }
 
   private static void logs() {
