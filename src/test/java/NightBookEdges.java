@@ -585,6 +585,12 @@ public final class NightBookEdges {
     taken(1, 1, times(23, "ask 0 then 23 else 23", ";") + ";ask 0 then 0 else 23");
     fault(1, 1, "go 9;wait 0", 2, 10);
     fault(1, 1, "go 9;calm;", 1, 10);
+    fault(1, 1, "go 99;calm;", 1, 11);
+    fault(1, 1, "go 24;wait 0", 2, 11);
+    fault(1, 1, "go 99;wait 0", 2, 11);
+    fault(1, 1, "ask 0 then 99 else 99", 2, 11);
+    fault(1, 1, "ask 0 then 99 else 99;", 1, 22);
+    fault(1, 1, "ask 0 then 0 else 99;calm calm", 1, 26);
     fault(1, 1, "go 9;" + times(24, "calm", ";"), 3, 120);
   }
 
@@ -1115,6 +1121,17 @@ public final class NightBookEdges {
     looks("do 0 right 0 takes 1;do 7 wrong 1 takes 1;wait 1;calm;calm", 3, 3, 3, 3, 2);
     looks("do 0 right 0 takes 1", 3);
     looks("do 1 right 0 takes 1 if 0 harm;calm", 1, 3);
+    sentence("IV: REACHED: (the last STEP of a BOOK leads to none, whatever text was refused or comes behind it)");
+    NightBook y = house(2, 1, 1, 128);
+    book(y, times(5, "go 1", ";") + ";");
+    with(y, "go 3;calm;calm;wait 1", times(2, "go 23", ";") + times(22, ";wait 1", ""), "go 1;calm");
+    int[] short4 = {3, 2, 2, 3};
+    for (int k = 0; k < 4; k++) due("look(0, " + k + ")", y.look(0, k), short4[k]);
+    due("idle(0)", y.idle(0), 2);
+    went(y, "play(0)", y.play(0, 0, 0, 0), OVER, 1, 2, 0, 4);
+    due("look(1, 1)", y.look(1, 1), 2);
+    due("idle(1)", y.idle(1), 22);
+    went(y, "play(1)", y.play(1, 0, 0, 0), OVER, 1, 2, 0, 24);
     sentence("IV: REACHED: (ask: both), whatever asks tell");
     looks("ask 0 then 2 else 4;calm;calm;calm;calm;calm", 3, 2, 3, 2, 3, 2);
     looks("ask 0 then 0 else 0;calm", 3, 2);
@@ -1176,6 +1193,11 @@ public final class NightBookEdges {
     x.all(0, 0, 0, 0, 0);
     due("mend(2) behind another all()", x.mend(2), NONE);
     firstMend(x, "mends() of book 0", x.mends(), 1, 2, 0, 1);
+    sentence("20: the latest all() (by its CHOICES alone, though one ahead of it had more)");
+    due("all", x.all(0, 1, 1, 0, 0), 2);
+    firstMend(x, "early with the fact wrong", x.mends(), 0);
+    due("all", x.all(0, 0, 0, 0, 0), 1);
+    firstMend(x, "none wrong", x.mends(), 1, 2, 0, 1);
     sentence("IV: each becomes another STEP (there is none in a BOOK of one)");
     due("all", x.all(1, 0, 0, 0, 0), 1);
     firstMend(x, "mends() of book 1", x.mends(), 0);
@@ -1261,6 +1283,11 @@ public final class NightBookEdges {
     NightBook x = with(house(4, 4, 0, 0, 0, 0), times(8, "go 0", ";") + ";" + times(9, "calm", ";"));
     due("125 plays", x.all(0, 15, 1, 1, 1), 125);
     done(x, "160 * 125 are 20,000", x.mends(), 0);
+    NightBook behind = with(house(4, 4, 0, 0, 0, 0), times(23, "calm", ";") + ";go 0");
+    refused(behind, "a text of 24 gos and no end", book(behind, times(24, "go 0", ";") + ";"), FAULT);
+    with(behind, times(8, "go 0", ";") + ";" + times(9, "calm", ";"));
+    due("125 plays", behind.all(1, 15, 1, 1, 1), 125);
+    done(behind, "160 * 125, whatever text was refused or taken ahead of it", behind.mends(), 0);
     String asks = times(12, "ask 0 then 0 else 0", ";") + ";go 0;calm";
     NightBook y = with(house(6, 1, 0, 0, 0, 252), asks, "go 0;calm");
     y.all(1, 0, 0, 0, 0);
